@@ -98,7 +98,7 @@ public final class TwoBelow {
             case 2:
                 return now.in[rank];
             case 3:
-                return Integer.bitCount(now.countingIn(rank));
+                return Integer.bitCount(now.in[rank] & now.counting());
             case 4:
                 return now.goldOf(now.in[rank]);
             default:
@@ -243,7 +243,7 @@ public final class TwoBelow {
         if (now.rank[person] == OUT) {
             return found(STATE);
         }
-        return now.wanting(now.judgesOf(person), person);
+        return now.wanting(now.judgesOf(person, now.counting()), person);
     }
 
     public int lacks(int person) {
@@ -253,7 +253,7 @@ public final class TwoBelow {
         if (now.rank[person] == OUT) {
             return found(STATE);
         }
-        int judges = now.judgesOf(person);
+        int judges = now.judgesOf(person, now.counting());
         int all = Integer.bitCount(judges);
         int wanting = Integer.bitCount(now.wanting(judges, person));
         for (int more = 0; wanting + more <= all; more++) {
@@ -495,11 +495,11 @@ public final class TwoBelow {
     }
 
     public int safe() {
+        int counting = now.counting();
         int set = 0;
         for (int p = 0; p < now.persons; p++) {
-            int judges = now.judgesOf(p);
-            int possible = Integer.bitCount(now.whoMayWant(judges, p));
-            if (now.rank[p] != OUT && !now.isEnough(possible, Integer.bitCount(judges))) {
+            int judges = now.judgesOf(p, counting);
+            if (now.rank[p] != OUT && !now.isEnough(now.howManyMayWant(judges, p), Integer.bitCount(judges))) {
                 set |= 1 << p;
             }
         }
@@ -976,24 +976,21 @@ public final class TwoBelow {
             return NOBODY;
         }
 
-        int hermits() {
+        /** Those who count among the persons of their rank. */
+        int counting() {
             int set = 0;
             for (int p = 0; p < persons; p++) {
-                if (kind[p] == HERMIT) {
+                if (kind[p] != HERMIT) {
                     set |= 1 << p;
                 }
             }
             return set;
         }
 
-        int countingIn(int r) {
-            return in[r] & ~hermits();
-        }
-
         /** Those who count two ranks below a person; nobody, if he is OUT or there is no such rank. */
-        int judgesOf(int q) {
+        int judgesOf(int q, int counting) {
             int r = rank[q];
-            return r != OUT && isRank(r + 2) ? countingIn(r + 2) : 0;
+            return r != OUT && isRank(r + 2) ? in[r + 2] & counting : 0;
         }
 
         int wanting(int set, int q) {
@@ -1006,16 +1003,16 @@ public final class TwoBelow {
             return those;
         }
 
-        /** Those of a set who would want a person turned out, had they the grudge for it. */
-        int whoMayWant(int set, int q) {
-            int those = 0;
+        /** How many of a set would want a person turned out, had they the grudge for it. */
+        int howManyMayWant(int set, int q) {
+            int many = 0;
             for (int p = 0; p < persons; p++) {
                 boolean may = !isOfKind(kind[p], LOYAL) || kind[p] == KIN && house[p] != house[q];
                 if ((set >> p & 1) != 0 && may) {
-                    those |= 1 << p;
+                    many++;
                 }
             }
-            return those;
+            return many;
         }
 
         int ableToPlot() {
@@ -1034,11 +1031,10 @@ public final class TwoBelow {
 
         /** Those who are turned OUT in (a) of this month. */
         int falling() {
-            int counting = ~hermits();
+            int counting = counting();
             int set = 0;
             for (int q = 0; q < persons; q++) {
-                int r = rank[q];
-                int judges = r != OUT && isRank(r + 2) ? in[r + 2] & counting : 0;
+                int judges = judgesOf(q, counting);
                 if (judges != 0 && isEnough(Integer.bitCount(wanting(judges, q)), Integer.bitCount(judges))) {
                     set |= 1 << q;
                 }
