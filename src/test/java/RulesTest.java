@@ -7,7 +7,9 @@ import java.nio.file.Path;
 import java.util.ArrayList;
 import java.util.Arrays;
 import java.util.List;
+import java.util.Map;
 import java.util.Set;
+import java.util.TreeMap;
 import java.util.TreeSet;
 import java.util.regex.Matcher;
 import java.util.regex.Pattern;
@@ -18,6 +20,8 @@ public final class RulesTest {
     private static final Path DOCUMENT = Path.of("../shared/DOC.md");
     private static final Set<Class<?>> CONSTANTS = Set.of(int.class, long.class, boolean.class, char.class, String.class,
             int[].class, long[].class, char[].class, byte[].class);
+
+    private static final int DEEPEST = 8;
 
     private static int wrong = 0;
     private static int asked = 0;
@@ -114,27 +118,44 @@ public final class RulesTest {
             must(library.contains(m.group()), m.group() + " is not in the list");
         }
         must(!Pattern.compile("\\bstatic\\s*\\{").matcher(code).find(), "no static block");
-        lengths(raw);
         objects(code);
+        Map<String, String> bodies = methods(code);
+        must(bodies.size() > 100, "the methods were seen");
+        for (String name : bodies.keySet()) {
+            must(depth(name, bodies, 1) <= DEEPEST, "calls go at most eight deep below " + name);
+        }
     }
 
-    private static void lengths(String raw) {
-        String[] lines = raw.split("\n");
-        int begun = -1;
-        String indent = "";
+    /** Each method by its name, with its lines. */
+    private static Map<String, String> methods(String code) {
+        Map<String, String> bodies = new TreeMap<>();
+        String[] lines = code.split("\n");
+        Pattern head = Pattern.compile("^(    |        )(?:\\w+ )*(?:int|boolean|void|Sheet) (\\w+)\\([^()]*\\) \\{$");
         for (int i = 0; i < lines.length; i++) {
-            Matcher m = Pattern.compile("^(    |        )[a-zA-Z][^=;]*\\(.*\\) \\{$").matcher(lines[i]);
-            boolean control = lines[i].trim().matches("(if|for|while|switch|else).*");
-            if (begun < 0 && m.find() && !control) {
-                begun = i;
-                indent = m.group(1);
-            } else if (begun >= 0 && lines[i].equals(indent + "}")) {
-                must(i - begun < 60, "a method of at most sixty lines at line " + (begun + 1));
-                begun = -1;
+            Matcher m = head.matcher(lines[i]);
+            if (m.find()) {
+                int end = i;
+                while (!lines[end].equals(m.group(1) + "}")) {
+                    end++;
+                }
+                must(end - i < 60, m.group(2) + " has at most sixty lines");
+                String body = String.join("\n", Arrays.asList(lines).subList(i + 1, end));
+                must(bodies.put(m.group(2), body) == null, m.group(2) + " is the name of one method alone");
             }
-            must(lines[i].length() <= 120, "line " + (i + 1) + " is short");
         }
-        must(begun < 0, "every method's end was seen");
+        return bodies;
+    }
+
+    /** How deep calls go from a method on, itself counted; it stops where they go too deep. */
+    private static int depth(String name, Map<String, String> bodies, int open) {
+        int deepest = 1;
+        Matcher m = Pattern.compile("\\b(\\w+)\\(").matcher(bodies.get(name));
+        while (m.find() && open <= DEEPEST) {
+            if (bodies.containsKey(m.group(1))) {
+                deepest = Math.max(deepest, 1 + depth(m.group(1), bodies, open + 1));
+            }
+        }
+        return deepest;
     }
 
     /** Objects come with a TwoBelow alone, so that 512 calls need no more room than none. */
