@@ -789,15 +789,18 @@ public final class PromisesTest {
         due("one up", 4, x.rises(0, 1));
         due("to the top", 0, x.rises(0, 5));
         due("and no higher", 0, x.rises(0, 120));
-        x = empire(0, 2, 5);
+        x = empire(0, 2, 4, 4, 4, 4);
         x.seats(0, 0);
-        x.seats(3, 0);
+        x.seats(2, 1);
+        x.seats(3, 1);
+        x.change(1, 2, 40);
         x.grudge(1, 0);
+        due("OUT in the second month", 2, x.sits(0));
         due("one up, and then OUT, which does not count", 1, x.rises(0, 60));
         x.put(0, -1);
         due("OUT all the time", NONE, x.rises(0, 60));
         due("OUT now", NONE, x.rises(0, 0));
-        for (int bad : new int[] {-1, 2, MIN, MAX}) {
+        for (int bad : new int[] {-1, 5, MIN, MAX}) {
             due("no such person", BEYOND, x.rises(bad, 0));
         }
         for (int bad : new int[] {-1, 121, MIN, MAX}) {
@@ -806,7 +809,7 @@ public final class PromisesTest {
         late(x, 990);
         due("MONTH would be 1000", STATE, x.rises(1, 10));
         due("STATE goes ahead of NONE", STATE, x.rises(0, 10));
-        due("MONTH would be 999", 4, x.rises(1, 9));
+        due("MONTH would be 999", 1, x.rises(1, 9));
     }
 
     private static void worth() {
