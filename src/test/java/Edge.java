@@ -1,14 +1,12 @@
-import java.lang.reflect.InvocationTargetException;
-import java.lang.reflect.Method;
 import java.util.ArrayList;
-import java.util.Arrays;
-import java.util.HashMap;
 import java.util.List;
-import java.util.Map;
+import java.util.function.Consumer;
 
 /**
  * A run of calls on one object, told in words so that it can be gone again: what a call leaves behind is held against
  * a twin that never had it, by looking at all that can be seen of both. Looking may spoil a twin, never the run itself.
+ *
+ * A case is gone twice: on new objects, and on objects with an earlier life, so that the last call of each is its 512th.
  */
 final class Edge {
     static final int BEYOND = -1000001;
@@ -23,18 +21,40 @@ final class Edge {
 
     /** What later calls on an object answer is free. */
     private static final int MOST_CALLS = 512;
-    private static final int STATUSES = 8;
-
-    private static final Map<String, Method> METHODS = new HashMap<>();
-    private static final Map<String, Told> CALLS = new HashMap<>();
+    private static final int PERSONS = 12;
+    private static final int SHEETS = 4;
 
     static int checks = 0;
     static final List<String> FAULTS = new ArrayList<>();
 
+    /** How many calls each run of a case has, seen when it is gone for the first time. */
+    private static final List<Integer> LENGTHS = new ArrayList<>();
+    private static boolean isLate;
+    private static int runs;
+
+    private final int number;
     private final TwoBelow object = new TwoBelow();
-    private final List<String> log = new ArrayList<>();
+    private final List<Told> log = new ArrayList<>();
 
     private Edge() {
+        number = runs;
+        runs++;
+        if (!isLate) {
+            LENGTHS.add(0);
+        } else if (number < LENGTHS.size()) {
+            EarlierLife.of(MOST_CALLS - LENGTHS.get(number)).forEach(call -> call.go(object));
+        } else {
+            FAULTS.add("the case has more runs than the first time");
+        }
+    }
+
+    /** A case begins: on new objects, or for the second time, on objects that have an earlier life. */
+    static void begin(boolean late) {
+        isLate = late;
+        runs = 0;
+        if (!late) {
+            LENGTHS.clear();
+        }
     }
 
     // ---- where a run begins
@@ -111,7 +131,7 @@ final class Edge {
 
     /** Months go until it is that one. */
     Edge late(int month) {
-        for (int left = month - object.count(0); left > 0; left -= 60) {
+        for (int left = month - go("count(0)"); left > 0; left -= 60) {
             then("months(" + Math.min(60, left) + ")");
         }
         return this;
@@ -154,8 +174,8 @@ final class Edge {
     Edge faults(String text, int place) {
         then("wipe()");
         tape(text);
-        List<String> wiped = new ArrayList<>(log);
-        wiped.add("wipe()");
+        List<Told> wiped = new ArrayList<>(log);
+        wiped.add(Told.of("wipe()"));
         answers("text()", -1 - place);
         same("a text with a FAULT (" + text + ") changes something", look(wiped), look(log));
         return this;
@@ -194,112 +214,125 @@ final class Edge {
         }
     }
 
-    // ---- calls from words
-
-    private static final class Told {
-        final Method method;
-        final Object[] args;
-
-        Told(String call) {
-            int open = call.indexOf('(');
-            method = methodOf(call.substring(0, open));
-            String inside = call.substring(open + 1, call.lastIndexOf(')')).trim();
-            args = inside.isEmpty() ? new Object[0] : Arrays.stream(inside.split(",")).map(Told::number).toArray();
-        }
-
-        private static Object number(String word) {
-            String w = word.trim();
-            return w.equals("MIN") ? (Integer) MIN : w.equals("MAX") ? (Integer) MAX : (Integer) Integer.parseInt(w);
-        }
-    }
-
-    private static Method methodOf(String name) {
-        if (METHODS.isEmpty()) {
-            for (Method m : TwoBelow.class.getDeclaredMethods()) {
-                METHODS.put(m.getName(), m);
-            }
-        }
-        return METHODS.get(name);
-    }
-
     private int go(String call) {
-        log.add(call);
-        return call(object, call);
-    }
-
-    private static int call(TwoBelow x, String call) {
-        Told told = CALLS.computeIfAbsent(call, Told::new);
-        try {
-            return (Integer) told.method.invoke(x, told.args);
-        } catch (InvocationTargetException e) {
-            FAULTS.add(call + " threw " + e.getCause());
-            return 0;
-        } catch (IllegalAccessException e) {
-            throw new IllegalStateException(call, e);
+        Told told = Told.of(call);
+        log.add(told);
+        if (!isLate) {
+            LENGTHS.set(number, log.size());
         }
+        return told.go(object);
     }
 
     // ---- all that can be seen
 
+    private static final List<Consumer<Looker>> LOOKS = looks();
+    private static List<Told> seenBehind = new ArrayList<>();
+    private static boolean seenLate;
+    private static List<String> seen = new ArrayList<>();
+
     /** What can be seen behind these calls, a line for each question; first the statuses. */
-    private static List<String> look(List<String> calls) {
+    private static List<String> look(List<Told> calls) {
+        if (isLate != seenLate || !calls.equals(seenBehind)) {
+            seen = new ArrayList<>();
+            for (Consumer<Looker> each : LOOKS) {
+                seen.addAll(isLate ? lookLate(calls, each) : looker(0, calls, each).lines);
+            }
+            seenBehind = new ArrayList<>(calls);
+            seenLate = isLate;
+        }
+        return new ArrayList<>(seen);
+    }
+
+    /** The same, so that the last question is an object's last call. */
+    private static List<String> lookLate(List<Told> calls, Consumer<Looker> each) {
+        int room = MOST_CALLS - calls.size() - looker(0, calls, each).lines.size();
+        if (room < 0) {
+            FAULTS.add("the test itself needs " + -room + " calls too many on one object");
+            return List.of();
+        }
+        return looker(room, calls, each).lines;
+    }
+
+    private static Looker looker(int life, List<Told> calls, Consumer<Looker> each) {
         TwoBelow x = new TwoBelow();
-        for (String call : calls) {
-            call(x, call);
-        }
+        EarlierLife.of(life).forEach(call -> call.go(x));
+        calls.forEach(call -> call.go(x));
         Looker eye = new Looker(x);
-        eye.look();
-        if (calls.size() + eye.asked > MOST_CALLS) {
-            FAULTS.add("the test itself needs " + (calls.size() + eye.asked) + " calls on one object");
+        each.accept(eye);
+        return eye;
+    }
+
+    /** Each look has a twin of its own, so that one need not care what another one spoils. */
+    private static List<Consumer<Looker>> looks() {
+        List<Consumer<Looker>> empire = new ArrayList<>(List.of(Looker::counts, Looker::ranks, Looker::spots, Looker::laws));
+        for (int p = 0; p < PERSONS; p++) {
+            int person = p;
+            empire.add(eye -> eye.person(person));
         }
-        return eye.lines;
+        List<Consumer<Looker>> all = new ArrayList<>(List.of(Looker::statuses));
+        all.addAll(empire);
+        all.add(Looker::text);
+        for (int s = 0; s < SHEETS; s++) {
+            int sheet = s;
+            all.add(eye -> eye.sheet(sheet));
+        }
+        for (Consumer<Looker> each : empire) {
+            all.add(eye -> {
+                eye.ask("back()");
+                each.accept(eye);
+            });
+        }
+        all.add(eye -> eye.ask("tear()"));
+        return all;
     }
 
     private static final class Looker {
         final TwoBelow x;
         final List<String> lines = new ArrayList<>();
-        int asked = 0;
 
         Looker(TwoBelow x) {
             this.x = x;
         }
 
         int ask(String call) {
-            int answer = call(x, call);
-            asked++;
+            int answer = Told.of(call).go(x);
             lines.add(call + " -> " + answer);
             return answer;
         }
 
-        void look() {
-            for (int which = -1; which < STATUSES - 1; which++) {
+        void statuses() {
+            for (int which = -1; which < 7; which++) {
                 ask("status(" + which + ")");
             }
-            empire();
-            text();
-            sheets();
-            ask("back()");
-            empire();
-            ask("tear()");
         }
 
-        /** All that an image keeps; the laws are spoilt. */
-        void empire() {
+        void counts() {
             for (int what = 0; what < 8; what++) {
                 ask("count(" + what + ")");
             }
-            for (int p = 0; p < x.count(1); p++) {
-                for (int what = 0; what < 7; what++) {
-                    ask("of(" + p + ", " + what + ")");
-                }
+        }
+
+        void person(int p) {
+            boolean isThere = ask("of(" + p + ", 0)") >= 0;
+            for (int what = 1; what < 7 && isThere; what++) {
+                ask("of(" + p + ", " + what + ")");
             }
+        }
+
+        void ranks() {
             for (int r = 0; r < 8; r++) {
                 ask("rankOf(" + r + ", 0)");
                 ask("rankOf(" + r + ", 2)");
             }
+        }
+
+        void spots() {
             for (int spot = 0; spot < 10; spot++) {
                 ask("as(" + spot + ", 0)");
             }
+        }
+
+        void laws() {
             ask("law(0, 0)");
             ask("law(1, 3)");
             ask("law(2, 50)");
@@ -309,28 +342,25 @@ final class Edge {
         void text() {
             ask("text()");
             ask("count(1)");
-            ask("law(0, 0)");
-            ask("law(1, 3)");
-            ask("law(2, 50)");
+            laws();
         }
 
         /** Numbers of a sheet can be seen as grudges alone, for which there must be as many persons as can be. */
-        void sheets() {
+        void sheet(int s) {
+            if (ask("copy(" + s + ", 0, " + s + ", 0, 0)") != 0) {
+                return;
+            }
             for (int r = 0; r < 8; r++) {
-                call(x, "seats(" + r + ", 4)");
-                asked++;
+                ask("seats(" + r + ", 4)");
             }
-            for (int p = x.count(1); p < 12; p++) {
-                for (int r = 0; call(x, "person(0, " + r + ")") < 0 && r < 7; r++) {
-                    asked++;
-                }
-                asked++;
-            }
-            for (int s = 0; s < 4; s++) {
-                if (ask("copy(" + s + ", 0, " + s + ", 0, 0)") == 0) {
-                    numbers(s);
+            int p = ask("count(1)");
+            for (int r = 0; r < 8 && p < PERSONS; r++) {
+                for (int free = 4 - ask("rankOf(" + r + ", 1)"); free > 0 && p < PERSONS; free--) {
+                    ask("person(0, " + r + ")");
+                    p++;
                 }
             }
+            numbers(s);
         }
 
         void numbers(int s) {
@@ -339,7 +369,7 @@ final class Edge {
                 size += ask("copy(" + s + ", 0, " + s + ", 0, " + (size + step) + ")") < 0 ? 0 : step;
             }
             int came = ask("load(" + s + ")");
-            for (int p = 0; p < came; p++) {
+            for (int p = 0; p < came && p < PERSONS; p++) {
                 ask("of(" + p + ", 5)");
             }
             if (size > 1) {

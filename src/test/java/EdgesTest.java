@@ -8,7 +8,8 @@ import java.util.stream.Stream;
 
 /**
  * Each boundary case that the document names, a test of its own: p05_.. is one of promise 5, terms2_.. one of
- * the second of the 'Terms' (terms0_ of what stands ahead of the first). Arguments: only cases with one of them in the name.
+ * the second of the 'Terms' (terms0_ of what stands ahead of the first). Each is gone on new objects and on objects
+ * that are near their 512th call. Arguments: only cases with one of them in the name.
  */
 public final class EdgesTest {
     private static final int PROMISES = 45;
@@ -23,6 +24,8 @@ public final class EdgesTest {
             Stream.of(c.getDeclaredMethods()).filter(m -> m.getName().matches("(p\\d\\d|terms\\d)_\\w+"))
                     .sorted(Comparator.comparing(Method::getName)).forEach(cases::add);
         }
+        List<String> refused = EarlierLife.refused();
+        refused.forEach(call -> System.out.println("in the earlier life " + call));
         int failed = 0;
         for (Method m : cases) {
             if (args.length == 0 || Stream.of(args).anyMatch(m.getName()::contains)) {
@@ -33,13 +36,19 @@ public final class EdgesTest {
         bare.forEach(name -> System.out.println("no case of " + name));
         System.out.println("EdgesTest: " + (cases.size() - failed) + " cases as due, " + failed + " not; "
                 + Edge.checks + " answers and states looked at");
-        if (failed + bare.size() != 0) {
+        if (failed + bare.size() + refused.size() != 0) {
             System.exit(1);
         }
     }
 
+    /** Whether a case holds on new objects, and then at the end of an object's life. */
     private static boolean isGood(Method m) throws IllegalAccessException {
+        return isGood(m, false) && isGood(m, true);
+    }
+
+    private static boolean isGood(Method m, boolean late) throws IllegalAccessException {
         Edge.FAULTS.clear();
+        Edge.begin(late);
         int before = Edge.checks;
         try {
             m.invoke(null);
@@ -49,7 +58,8 @@ public final class EdgesTest {
         if (Edge.checks == before) {
             Edge.FAULTS.add("nothing was looked at");
         }
-        Edge.FAULTS.forEach(fault -> System.out.println(m.getName() + ": " + fault));
+        String when = late ? ", on the last of an object's 512 calls: " : ": ";
+        Edge.FAULTS.forEach(fault -> System.out.println(m.getName() + when + fault));
         return Edge.FAULTS.isEmpty();
     }
 

@@ -3,11 +3,35 @@ import java.util.ArrayList;
 import java.util.Arrays;
 import java.util.List;
 import java.util.Random;
+import java.util.Set;
+import java.util.TreeSet;
+import java.util.stream.IntStream;
 
-/** Runs of chance calls, of which each must be answered by TwoBelow as by Oracle. The seeds are fixed. */
+/**
+ * Runs of chance calls, each as long as an object may be used, of which each must be answered by TwoBelow as by Oracle.
+ * The seeds are fixed.
+ */
 public final class RandomRunsTest {
-    private static final int RUNS = 600;
-    private static final int CALLS = 300;
+    private static final int RUNS = 800;
+    private static final int CALLS = 512;
+    /** So many calls it takes to look at all that can be seen. */
+    private static final int LOOK = 150;
+    /** From this call on an object is near its end: there, too, each call must be answered in each way. */
+    private static final int LATE = 412;
+    private static final List<String> FINDINGS = List.of("BEYOND", "FULL", "KIND", "NONE", "STATE", "MISSING", "SIZE");
+    /** The findings of each call, as its promise names them; beside these it answers. */
+    private static final String[] WAYS = {
+        "seats BEYOND STATE", "rankOf BEYOND", "law BEYOND", "person BEYOND STATE FULL", "of BEYOND", "change BEYOND",
+        "grudge BEYOND", "put BEYOND STATE", "gift BEYOND STATE", "exchange BEYOND STATE",
+        "wants BEYOND", "against BEYOND STATE", "lacks BEYOND STATE NONE", "tremble", "heir BEYOND NONE",
+        "months BEYOND STATE", "ahead BEYOND STATE", "sits BEYOND STATE NONE", "rises BEYOND STATE NONE",
+        "worth BEYOND STATE", "least BEYOND STATE NONE", "best BEYOND STATE", "partsFor BEYOND STATE",
+        "kindFor BEYOND STATE", "plot BEYOND STATE SIZE NONE", "undo BEYOND STATE", "safe", "rumours BEYOND STATE", "seed",
+        "feed BEYOND FULL", "wipe", "text", "hold BEYOND", "as BEYOND MISSING KIND", "sheet BEYOND SIZE",
+        "write BEYOND MISSING", "copy BEYOND MISSING KIND", "load BEYOND MISSING", "judge BEYOND MISSING STATE",
+        "image", "back NONE", "tear", "count BEYOND", "status BEYOND",
+    };
+    private static final Set<String> SEEN_LATE = new TreeSet<>();
     private static final int[] WILD = {Integer.MIN_VALUE, Integer.MAX_VALUE, -2, -1, 1000, 10000, 65536, -1000001};
 
     private final Random chance;
@@ -15,6 +39,7 @@ public final class RandomRunsTest {
     private final TwoBelow got = new TwoBelow();
     private final Oracle due = new Oracle();
     private final List<String> told = new ArrayList<>();
+    private int calls = 0;
     private boolean wrong = false;
 
     private RandomRunsTest(int run) {
@@ -23,13 +48,13 @@ public final class RandomRunsTest {
         chance = new Random((run + 1) * 0x9E3779B97F4A7C15L);
     }
 
-    public static void main(String[] args) throws Exception {
+    public static void main(String[] args) {
         int runs = args.length > 0 ? Integer.parseInt(args[0]) : RUNS;
-        int failed = 0;
-        for (int run = 0; run < runs; run++) {
-            RandomRunsTest test = new RandomRunsTest(run);
-            test.play();
-            failed += test.wrong ? 1 : 0;
+        long failed = IntStream.range(0, runs).filter(run -> !isAsDue(run)).count();
+        Set<String> unseen = unseen();
+        if (runs >= RUNS && failed == 0 && !unseen.isEmpty()) {
+            System.out.println("near an object's last call there never was: " + unseen);
+            failed++;
         }
         System.out.println("RandomRunsTest: " + (runs - failed) + " runs as due, " + failed + " not");
         if (failed != 0) {
@@ -37,7 +62,36 @@ public final class RandomRunsTest {
         }
     }
 
-    private void call(String name, int... args) throws Exception {
+    /** Ways to answer that no run came upon near its end. */
+    private static Set<String> unseen() {
+        Set<String> unseen = new TreeSet<>();
+        for (String ways : WAYS) {
+            String[] words = ways.split(" ");
+            unseen.add(words[0] + " answered");
+            for (int i = 1; i < words.length; i++) {
+                unseen.add(words[0] + " " + words[i]);
+            }
+        }
+        unseen.removeAll(SEEN_LATE);
+        return unseen;
+    }
+
+    private static boolean isAsDue(int run) {
+        RandomRunsTest test = new RandomRunsTest(run);
+        try {
+            test.play();
+        } catch (ReflectiveOperationException e) {
+            throw new IllegalStateException("run " + run, e);
+        }
+        return !test.wrong;
+    }
+
+    /** A call on both; none, if the object has been used up. */
+    private int call(String name, int... args) throws ReflectiveOperationException {
+        if (calls >= CALLS || wrong) {
+            return 0;
+        }
+        calls++;
         Class<?>[] types = new Class<?>[args.length];
         Arrays.fill(types, int.class);
         Object[] boxed = Arrays.stream(args).boxed().toArray();
@@ -51,12 +105,18 @@ public final class RandomRunsTest {
         }
         Object b = theirs.invoke(due, boxed);
         told.add(name + Arrays.toString(args) + " -> " + a);
-        if (!b.equals(a) && !wrong) {
-            wrong = true;
-            System.out.println("run " + run + ", call " + told.size() + ": " + name + Arrays.toString(args)
-                    + " answered " + a + ", due is " + b);
-            System.out.println("  before: " + told.subList(Math.max(0, told.size() - 12), told.size()));
+        if (calls >= LATE) {
+            int finding = -1000001 - (Integer) b;
+            boolean isFound = finding >= 0 && finding < FINDINGS.size();
+            SEEN_LATE.add(name + " " + (isFound ? FINDINGS.get(finding) : "answered"));
         }
+        if (!b.equals(a)) {
+            wrong = true;
+            System.out.println("run " + run + ", call " + calls + ": " + name + Arrays.toString(args)
+                    + " answered " + a + ", due is " + b + "\n  before: "
+                    + told.subList(Math.max(0, told.size() - 12), told.size()));
+        }
+        return (Integer) b;
     }
 
     /** A number from a to b, mostly; at times one beside it, or a wild one. */
@@ -78,22 +138,25 @@ public final class RandomRunsTest {
         return num(0, Math.max(0, due.count(1) - 1));
     }
 
-    private void play() throws Exception {
+    private void play() throws ReflectiveOperationException {
         if (chance.nextInt(8) == 0) {
             growLate();
         }
-        boolean hot = chance.nextInt(3) > 0;
-        if (hot) {
-            stirUp();
-        } else {
+        boolean goesBack = chance.nextInt(3) > 0;
+        if (!goesBack) {
             settle();
+        } else if (chance.nextInt(12) == 0) {
+            // An empire in which there is nobody again and again.
+            call("image");
+        } else {
+            stirUp();
         }
-        for (int i = 0; i < CALLS && !wrong; i++) {
+        // Some runs end with a look at all, some go on with other calls up to the last one.
+        int end = chance.nextBoolean() ? CALLS - LOOK : CALLS;
+        while (calls < end && !wrong) {
             step();
-            if (i % 40 == 39) {
-                look();
-            }
-            if (hot && chance.nextInt(5) == 0) {
+            glance(chance.nextInt(3));
+            if (goesBack && chance.nextInt(5) == 0) {
                 call("back");
             }
         }
@@ -101,14 +164,14 @@ public final class RandomRunsTest {
     }
 
     /** So many months go that what would be above the last one comes up. */
-    private void growLate() throws Exception {
+    private void growLate() throws ReflectiveOperationException {
         for (int i = chance.nextInt(3); i < 16; i++) {
             call("months", 60);
         }
         call("months", num(1, 40));
     }
 
-    private void settle() throws Exception {
+    private void settle() throws ReflectiveOperationException {
         for (int i = chance.nextInt(4); i > 0; i--) {
             text(chance.nextInt(5) == 0);
         }
@@ -122,12 +185,12 @@ public final class RandomRunsTest {
     }
 
     /** Many persons of all sorts, most with a grudge against one two ranks above: much comes of it. */
-    private void stirUp() throws Exception {
+    private void stirUp() throws ReflectiveOperationException {
         for (int r = 0; r < 8; r++) {
             call("seats", r, 1 + chance.nextInt(4));
         }
         int span = 3 + chance.nextInt(5);
-        for (int i = 0; i < 60; i++) {
+        for (int i = 0; i < 30 && due.count(1) < 12; i++) {
             call("person", new int[] {0, 0, 0, 1, 2, 2, 3, 3, 4, 5, 5, 6}[chance.nextInt(12)], chance.nextInt(span));
         }
         for (int p = 0; p < due.count(1); p++) {
@@ -149,29 +212,34 @@ public final class RandomRunsTest {
     }
 
     /** All that can be seen of the state. */
-    private void look() throws Exception {
-        for (int p = 0; p < 12; p++) {
-            for (int what = 0; what < 7; what++) {
-                call("of", p, what);
-            }
-        }
-        for (int r = 0; r < 8; r++) {
-            for (int what = 0; what < 5; what++) {
-                call("rankOf", r, what);
-            }
-        }
-        for (int what = 0; what < 8; what++) {
-            call("count", what);
-        }
-        for (int which = -1; which < 7; which++) {
-            call("status", which);
-        }
-        for (int spot = 0; spot < 10; spot++) {
-            call("as", spot, 0);
+    private void look() throws ReflectiveOperationException {
+        for (int i = 0; i < LOOK; i++) {
+            question(i);
         }
     }
 
-    private void step() throws Exception {
+    /** Some of it. */
+    private void glance(int questions) throws ReflectiveOperationException {
+        for (int i = 0; i < questions; i++) {
+            question(chance.nextInt(LOOK));
+        }
+    }
+
+    private void question(int i) throws ReflectiveOperationException {
+        if (i < 84) {
+            call("of", i / 7, i % 7);
+        } else if (i < 124) {
+            call("rankOf", (i - 84) / 5, (i - 84) % 5);
+        } else if (i < 132) {
+            call("count", i - 124);
+        } else if (i < 140) {
+            call("status", i - 133);
+        } else {
+            call("as", i - 140, 0);
+        }
+    }
+
+    private void step() throws ReflectiveOperationException {
         switch (chance.nextInt(12)) {
             case 0:
             case 1:
@@ -204,7 +272,7 @@ public final class RandomRunsTest {
         }
     }
 
-    private void change() throws Exception {
+    private void change() throws ReflectiveOperationException {
         switch (chance.nextInt(11)) {
             case 0:
                 call("seats", num(0, 7), num(0, 4));
@@ -242,7 +310,7 @@ public final class RandomRunsTest {
         }
     }
 
-    private void ask() throws Exception {
+    private void ask() throws ReflectiveOperationException {
         switch (chance.nextInt(10)) {
             case 0:
                 call("rankOf", num(0, 7), num(0, 4));
@@ -275,7 +343,7 @@ public final class RandomRunsTest {
         }
     }
 
-    private void askAhead() throws Exception {
+    private void askAhead() throws ReflectiveOperationException {
         switch (chance.nextInt(4)) {
             case 0:
                 call("ahead", num(0, 120), chance.nextBoolean() ? num(0, 3) : 4 + someone());
@@ -292,7 +360,7 @@ public final class RandomRunsTest {
         }
     }
 
-    private void trySearch() throws Exception {
+    private void trySearch() throws ReflectiveOperationException {
         switch (chance.nextInt(9)) {
             case 0:
                 if (chance.nextInt(4) == 0) {
@@ -328,7 +396,7 @@ public final class RandomRunsTest {
         }
     }
 
-    private void feedOrImage() throws Exception {
+    private void feedOrImage() throws ReflectiveOperationException {
         switch (chance.nextInt(8)) {
             case 0:
                 call(chance.nextInt(4) == 0 ? "image" : "wipe");
@@ -341,6 +409,9 @@ public final class RandomRunsTest {
                 break;
             case 3:
                 call("feed", chance.nextInt(), num(1, 4));
+                if (chance.nextInt(8) == 0) {
+                    fillTape();
+                }
                 break;
             case 4:
                 call(chance.nextInt(3) == 0 ? "text" : "wipe");
@@ -354,7 +425,19 @@ public final class RandomRunsTest {
         }
     }
 
-    private void sheets() throws Exception {
+    private void fillTape() throws ReflectiveOperationException {
+        for (int i = 0; i < 40 && call("feed", chance.nextInt(), 4) > 0; i++) {
+            glance(chance.nextInt(2));
+        }
+        for (int n = 3; n > 0; n--) {
+            call("feed", chance.nextInt(), n);
+        }
+        if (chance.nextBoolean()) {
+            call("text");
+        }
+    }
+
+    private void sheets() throws ReflectiveOperationException {
         int s = num(0, 3);
         switch (chance.nextInt(9)) {
             case 0:
@@ -387,7 +470,7 @@ public final class RandomRunsTest {
         }
     }
 
-    private void load(int s) throws Exception {
+    private void load(int s) throws ReflectiveOperationException {
         int n = chance.nextInt(14);
         call("sheet", s, 8 << chance.nextInt(3), n);
         for (int i = 0; i < n; i++) {
@@ -396,20 +479,17 @@ public final class RandomRunsTest {
         call("load", s);
     }
 
-    private void annals(int s) throws Exception {
+    private void annals(int s) throws ReflectiveOperationException {
         int n = chance.nextInt(6);
         call("sheet", s, 8 << chance.nextInt(3), n);
         for (int i = 0; i < n; i++) {
-            call("write", s, i, chance.nextInt(12) == 0 ? num(0, 7) : Math.max(0, due.ahead(i + 1, 3)));
-            // The question that was put to Oracle alone may have told a finding there: the other one is told it, too.
-            if (due.status(-1) != got.status(-1)) {
-                got.ahead(i + 1, 3);
-            }
+            int top = Math.max(0, call("ahead", i + 1, 3));
+            call("write", s, i, chance.nextInt(12) == 0 ? num(0, 7) : top);
         }
         call("judge", s);
     }
 
-    private void text(boolean spoilt) throws Exception {
+    private void text(boolean spoilt) throws ReflectiveOperationException {
         StringBuilder text = new StringBuilder(chance.nextInt(6) == 0 ? " " : "");
         int items = 1 + chance.nextInt(5);
         for (int i = 0; i < items; i++) {
