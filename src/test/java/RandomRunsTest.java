@@ -20,7 +20,7 @@ public final class RandomRunsTest {
     private static final int LATE = 412;
     private static final List<String> FINDINGS = List.of("BEYOND", "FULL", "KIND", "NONE", "STATE", "MISSING", "SIZE");
     /** The findings of each call, as its promise names them; beside these it answers. */
-    private static final String[] WAYS = {
+    static final List<String> WAYS = List.of(
         "seats BEYOND STATE", "rankOf BEYOND", "law BEYOND", "person BEYOND STATE FULL", "of BEYOND", "change BEYOND",
         "grudge BEYOND", "put BEYOND STATE", "gift BEYOND STATE", "exchange BEYOND STATE",
         "wants BEYOND", "against BEYOND STATE", "lacks BEYOND STATE NONE", "tremble", "heir BEYOND NONE",
@@ -29,8 +29,7 @@ public final class RandomRunsTest {
         "kindFor BEYOND STATE", "plot BEYOND STATE SIZE NONE", "undo BEYOND STATE", "safe", "rumours BEYOND STATE", "seed",
         "feed BEYOND FULL", "wipe", "text", "hold BEYOND", "as BEYOND MISSING KIND", "sheet BEYOND SIZE",
         "write BEYOND MISSING", "copy BEYOND MISSING KIND", "load BEYOND MISSING", "judge BEYOND MISSING STATE",
-        "image", "back NONE", "tear", "count BEYOND", "status BEYOND",
-    };
+        "image", "back NONE", "tear", "count BEYOND", "status BEYOND");
     private static final Set<String> SEEN_LATE = new TreeSet<>();
     private static final int[] WILD = {Integer.MIN_VALUE, Integer.MAX_VALUE, -2, -1, 1000, 10000, 65536, -1000001};
 
