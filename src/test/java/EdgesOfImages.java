@@ -46,6 +46,27 @@ final class EdgesOfImages extends EdgeWords {
                 .asks("of(11, 5)", -1);
     }
 
+    static void p41_allOfThe12thPersonIsKept() {
+        Edge run = crowd().then("change(11, 0, 2)", "change(11, 2, 77)", "change(11, 3, 3)", "change(11, 4, 4321)",
+                "grudge(11, 10)", "gift(11, 9)", "image()");
+        run.then("change(11, 0, 5)", "change(11, 2, 1)", "change(11, 3, 1)", "change(11, 4, 1)", "grudge(11, 9)",
+                "put(11, -1)").answers("back()", 0);
+        int[] kept = {2, 3, 77, 3, 4330, 10, 9};
+        for (int what = 0; what < kept.length; what++) {
+            run.asks("of(11, " + what + ")", kept[what]);
+        }
+    }
+
+    static void p41_theFirstAndTheLastSpotAreKept() {
+        crowd().then("hold(0, 11)", "hold(9, 4)", "image()", "hold(0, 1)", "hold(9, -1)").answers("back()", 0)
+                .asks("as(0, 0)", 11).asks("as(9, 0)", 4);
+    }
+
+    static void p41_theFirstAndTheLastRanksSeatsAreKept() {
+        fresh("seats(0, 1)", "seats(7, 4)", "image()", "seats(0, 2)", "seats(7, 0)").answers("back()", 0)
+                .asks("rankOf(0, 0)", 1).asks("rankOf(7, 0)", 4);
+    }
+
     // ---- 42: back
 
     static void p42_nothingIsKeptIsNone() {

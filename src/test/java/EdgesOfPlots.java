@@ -215,6 +215,11 @@ final class EdgesOfPlots extends EdgeWords {
         people(0, 0, 2, 2, 2).then("seats(1, 0)", "law(1, 2)", "grudge(1, 0)").asks("undo(0, 1)", 2);
     }
 
+    static void p27_oneStruckOutIsInNoRank() {
+        // The sly one wants the richest of rank 0: 1 is richer than 0, but in rank 1, and OUT then.
+        people(0, 0, 1, 2).then("seats(0, 1)", "change(1, 4, 500)", "change(2, 0, 3)").asks("undo(0, 1)", 4);
+    }
+
     // ---- 28: safe
 
     static void p28_withNoPersonsNobody() {

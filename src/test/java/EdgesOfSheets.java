@@ -162,6 +162,13 @@ final class EdgesOfSheets extends EdgeWords {
         fresh().answers("sheet(0, 8, 40)", 40).answers("write(0, 39, 1)", 1).refuses("write(0, 40, 1)", BEYOND);
     }
 
+    static void p36_theLastOf40NumbersIs0Anew() {
+        crowd().then("sheet(0, 8, 40)", "write(0, 39, 7)", "sheet(0, 8, 40)", "copy(0, 39, 0, 1, 1)", "write(0, 0, -1)")
+                .answers("load(0)", 12).asks("of(1, 5)", 0);
+        crowd().then("sheet(0, 8, 40)", "write(0, 39, 7)", "sheet(0, 0, 0)", "sheet(0, 8, 40)", "copy(0, 39, 0, 1, 1)",
+                "write(0, 0, -1)").answers("load(0)", 12).asks("of(1, 5)", 0);
+    }
+
     static void p36_bits0MakesItMissingAndAnswers0() {
         court().answers("sheet(0, 0, 40)", 0).refuses("load(0)", MISSING).answers("sheet(1, 0, 0)", 0)
                 .refuses("load(1)", MISSING);

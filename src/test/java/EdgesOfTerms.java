@@ -157,6 +157,11 @@ final class EdgesOfTerms extends EdgeWords {
 
     // ---- 2 (b): who moves up
 
+    static void terms2_oneWhoIsOutIsNotTurnedOutByThoseOfRank1() {
+        people(0, 0, 1).then("put(0, -1)", "grudge(1, 0)", "seats(0, 0)")
+                .answers("months(1)", 0).asks("count(3)", 0).asks("ahead(5, 1)", 0);
+    }
+
     static void terms2_aRankIsFilledFromTheNextOneOnlyOnceAMonth() {
         people(0, 3).then("months(1)").asks("of(0, 1)", 2).then("months(1)").asks("of(0, 1)", 1).then("months(1)")
                 .asks("of(0, 1)", 0).then("months(1)").asks("of(0, 1)", 0);

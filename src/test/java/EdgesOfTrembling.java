@@ -288,6 +288,12 @@ final class EdgesOfTrembling extends EdgeWords {
         people(0, 0, 2).then("grudge(1, 0)", "put(0, -1)").asks("tremble()", 0);
     }
 
+    static void p15_oneWhoIsOutIsNotTwoAboveRank1() {
+        // RANK -1 is told of one who is OUT, and -1 and 2 are 1: but that is no rank.
+        people(0, 0, 1).then("grudge(1, 0)", "put(0, -1)").asks("tremble()", 0);
+        people(5, 0, 1).then("change(0, 2, 99)", "put(0, -1)").asks("tremble()", 0);
+    }
+
     static void p15_aHermitAndALoyalOneMayTremble() {
         people(6, 0, 2, 0).then("change(1, 0, 0)", "grudge(1, 0)").asks("tremble()", 1).then("change(0, 0, 1)")
                 .asks("tremble()", 1);

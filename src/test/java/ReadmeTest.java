@@ -7,12 +7,14 @@ import java.nio.file.Files;
 import java.nio.file.Path;
 import java.util.ArrayList;
 import java.util.Comparator;
+import java.util.LinkedHashMap;
 import java.util.List;
+import java.util.Map;
+import java.util.Set;
 import java.util.regex.Matcher;
 import java.util.regex.Pattern;
 import java.util.stream.Collectors;
 import java.util.stream.Stream;
-import javax.tools.ToolProvider;
 
 /** That the examples in README.md answer as they say, and that it tells of every call and of every finding. */
 public final class ReadmeTest {
@@ -20,6 +22,7 @@ public final class ReadmeTest {
     private static final Path DOCUMENT = Path.of("../shared/DOC.md");
     /** A line of an example: perhaps a variable, a call, the number behind it. */
     private static final Pattern LINE = Pattern.compile("(?m)^( *)(int (\\w+) = )?(.*?);( *)// (-?\\d+)(:.*)?$");
+    private static final String WHOLE = "public final class ";
     private static final String PRINT = "System.out.println(";
 
     private static int wrong = 0;
@@ -27,13 +30,9 @@ public final class ReadmeTest {
 
     public static void main(String[] args) throws Exception {
         String readme = Files.readString(README);
-        List<String> examples = blocks(readme);
-        must(examples.size() >= 3, "there are examples, seen: " + examples.size());
         Path dir = Files.createTempDirectory("readme");
         try {
-            for (int i = 0; i < examples.size(); i++) {
-                example(dir, i, examples.get(i));
-            }
+            examples(dir, blocks(readme));
         } finally {
             clear(dir);
         }
@@ -54,7 +53,7 @@ public final class ReadmeTest {
         asked++;
         if (!good) {
             wrong++;
-            System.out.println("README.md: " + what);
+            System.err.println("README.md: " + what);
         }
     }
 
@@ -69,20 +68,30 @@ public final class ReadmeTest {
 
     // ---- examples
 
-    private static void example(Path dir, int number, String code) throws Exception {
-        for (String line : code.split("\n")) {
-            must(!line.contains("empire.") || LINE.matcher(line).matches(), "no answer is told for: " + line.trim());
+    private static void examples(Path dir, List<String> codes) throws Exception {
+        must(codes.size() >= 3, "there are examples, seen: " + codes.size());
+        Map<String, String> classes = new LinkedHashMap<>();
+        Map<String, String> prints = new LinkedHashMap<>();
+        for (String code : codes) {
+            for (String line : code.split("\n")) {
+                must(!line.contains("empire.") || LINE.matcher(line).matches(), "no answer is told for: " + line.trim());
+            }
+            String asking = "Asking" + classes.size();
+            if (code.startsWith(WHOLE)) {
+                String name = code.substring(WHOLE.length(), code.indexOf(" {"));
+                classes.put(name, code);
+                prints.put(name, toldToPrint(code));
+                classes.put(asking, asking(code).replace(WHOLE + name, WHOLE + asking));
+            } else {
+                classes.put(asking, WHOLE + asking + " {\n    public static void main(String[] args) {\n" + asking(code)
+                        + "    }\n}\n");
+            }
         }
-        boolean isWhole = code.startsWith("public final class ");
-        if (isWhole) {
-            String name = code.substring("public final class ".length(), code.indexOf(" {"));
-            String printed = run(dir.resolve("plain"), name, code);
-            must(printed.equals(toldToPrint(code)), "the example prints\n" + printed);
-            run(dir.resolve("asking"), name, asking(code));
-        } else {
-            String name = "Piece" + number;
-            run(dir.resolve(name), name, "public final class " + name
-                    + " {\n    public static void main(String[] args) {\n" + asking(code) + "    }\n}\n");
+        boolean isCompiled = compile(dir, classes);
+        must(isCompiled, "the examples compile");
+        for (String name : isCompiled ? classes.keySet() : Set.<String>of()) {
+            String printed = run(dir, name);
+            must(printed.equals(prints.getOrDefault(name, "")), name + " prints\n" + printed);
         }
     }
 
@@ -112,16 +121,17 @@ public final class ReadmeTest {
         return lines.toString();
     }
 
-    /** Compiles a class and runs it: what it printed. */
-    private static String run(Path dir, String name, String code) throws Exception {
-        Files.createDirectories(dir);
-        Path file = Files.writeString(dir.resolve(name + ".java"), code);
-        int failed = ToolProvider.getSystemJavaCompiler().run(null, null, null, "-d", dir.toString(), "-cp",
-                System.getProperty("java.class.path"), file.toString());
-        must(failed == 0, name + " doesn't compile:\n" + code);
-        if (failed != 0) {
-            return "";
+    private static boolean compile(Path dir, Map<String, String> classes) throws Exception {
+        List<String> command = new ArrayList<>(List.of("javac", "-d", dir.toString(), "-cp",
+                System.getProperty("java.class.path")));
+        for (Map.Entry<String, String> each : classes.entrySet()) {
+            command.add(Files.writeString(dir.resolve(each.getKey() + ".java"), each.getValue()).toString());
         }
+        return new ProcessBuilder(command).inheritIO().start().waitFor() == 0;
+    }
+
+    /** What a class prints; what due() finds wrong in it is told aside. */
+    private static String run(Path dir, String name) throws Exception {
         PrintStream before = System.out;
         ByteArrayOutputStream printed = new ByteArrayOutputStream();
         try (URLClassLoader loader = new URLClassLoader(new URL[] {dir.toUri().toURL()}, ReadmeTest.class.getClassLoader())) {
@@ -130,10 +140,7 @@ public final class ReadmeTest {
         } finally {
             System.setOut(before);
         }
-        String text = printed.toString().replace("\r\n", "\n");
-        // What due() says of an example is printed in the midst of it.
-        text.lines().filter(line -> line.startsWith("README.md: ")).forEach(System.out::println);
-        return text;
+        return printed.toString().replace("\r\n", "\n");
     }
 
     private static void clear(Path dir) throws IOException {
