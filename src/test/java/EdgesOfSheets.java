@@ -12,11 +12,8 @@ final class EdgesOfSheets extends EdgeWords {
         return run;
     }
 
-    /** Just these come as grudges of 0, 1, .. from a sheet; the twelve persons had none before. */
+    /** Just these come as grudges of 0, 1, .. from a sheet. */
     private static Edge holds(Edge run, int s, int... numbers) {
-        for (int p = 0; p < 12; p++) {
-            run.then("grudge(" + p + ", -1)");
-        }
         run.answers("load(" + s + ")", numbers.length);
         for (int p = 0; p < numbers.length; p++) {
             run.asks("of(" + p + ", 5)", numbers[p]);
