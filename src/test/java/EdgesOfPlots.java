@@ -220,6 +220,10 @@ final class EdgesOfPlots extends EdgeWords {
         people(0, 0, 1, 2).then("seats(0, 1)", "change(1, 4, 500)", "change(2, 0, 3)").asks("undo(0, 1)", 4);
     }
 
+    static void p27_oneStruckOutIsNotTwoAboveRank0() {
+        people(3, 0, 1, 2).then("put(2, -1)").asks("undo(0, 1)", 2);
+    }
+
     // ---- 28: safe
 
     static void p28_withNoPersonsNobody() {
